@@ -195,6 +195,9 @@ public final class PromisesTest {
         stands("3: capacity 4", "0 0 0 0 w", x);
         CHECK.due("3: movesOf(3), moved once, then put back and placed", 1, () -> x.movesOf(3));
 
+        CHECK.due("3: setCapacity(0, 0)", 4, () -> x.setCapacity(0, 0));
+        stands("3: all are put back", "w w w w w", x);
+
         CHECK.due("3: setCapacity(-1, 1)", NO_INDEX, () -> x.setCapacity(-1, 1));
         CHECK.due("3: setCapacity(2, 1)", NO_INDEX, () -> x.setCapacity(2, 1));
         CHECK.due("3: setCapacity(2, 5)", NO_INDEX, () -> x.setCapacity(2, 5));
@@ -229,6 +232,8 @@ public final class PromisesTest {
         stands("4: quota 0", "0 1 w w w w", x);
         CHECK.due("4: setGroup(2, 40, 10)", 0, () -> x.setGroup(2, 40, 10));
         stands("4: quota 40", "0 1 0 w w w", x);
+        CHECK.due("4: setGroup(2, 0, 1)", 3, () -> x.setGroup(2, 0, 1));
+        stands("4: all are put back", "w w w w w w", x);
     }
 
     private static void promise4Weights() {
@@ -314,6 +319,7 @@ public final class PromisesTest {
         bestPath("a free place before a move", "0 0 1", "", withResources(2, 1), 0b01, 0b11, 0b11);
         bestPath("nobody can move", "0 1 w", "", withResources(1, 1), 0b11, 0b11, 0b01);
         bestPath("r1: the smaller request", "1 0 0", "0>1", withResources(2, 1), 0b11, 0b11, 0b01);
+        bestPath("r1: the only one that can go on", "1 0 0", "0>1", withResources(2, 1), 0b11, 0b01, 0b01);
         bestPath("a2: the smaller resource", "1 0", "0>1", withResources(1, 1, 1), 0b111, 0b001);
         bestPath("a1 before r1", "1 2 0", "1>2", withResources(1, 1, 1), 0b110, 0b101, 0b011);
         bestPath("r1 before a2", "3 0 0", "0>3", withResources(2, 0, 1, 1), 0b1001, 0b0101, 0b0001);
@@ -377,6 +383,10 @@ public final class PromisesTest {
         CHECK.due("6: arrive(0, 1), the 41st", WRONG_STATE, () -> x.arrive(0, 1));
         CHECK.due("6: arrive(0, 2), the 41st", WRONG_ARGUMENT, () -> x.arrive(0, 2));
         CHECK.due("6: arrive(4, 1), the 41st", NO_INDEX, () -> x.arrive(4, 1));
+        CHECK.due("6: waitingCount() of forty", 36, () -> x.waitingCount());
+        CHECK.due("6: greatestPossible() of forty", 4, () -> x.greatestPossible());
+        CHECK.due("6: gainBy(39)", 0, () -> x.gainBy(39));
+        CHECK.due("6: movesNeeded(39)", -1, () -> x.movesNeeded(39));
         CHECK.due("6: depart(39)", 0, () -> x.depart(39));
         CHECK.due("6: arrive(0, 1) after a departure", WRONG_STATE, () -> x.arrive(0, 1));
         CHECK.due("6: depart(0)", 1, () -> x.depart(0));
@@ -480,6 +490,10 @@ public final class PromisesTest {
         CHECK.due("10: arrivedCount()", 5, () -> x.arrivedCount());
         CHECK.due("11: assignedCount()", 2, () -> x.assignedCount());
         CHECK.due("12: waitingCount()", 2, () -> x.waitingCount());
+        x.setAccepts(0, 0);
+        stands("9 to 12", "w 1 0 d w", x);
+        CHECK.due("11: assignedCount() then", 2, () -> x.assignedCount());
+        CHECK.due("12: waitingCount() then", 2, () -> x.waitingCount());
     }
 
     private static void promise13AssignedOf() {
@@ -635,6 +649,8 @@ public final class PromisesTest {
         y.setCapacity(3, 0);
         CHECK.due("22: greatestPossible() with a capacity 0", 3, () -> y.greatestPossible());
 
+        greatestAboveStanding();
+
         MatchingService z = withResources(4, 4, 4, 4, 4, 4, 4, 4, 4, 4, 4, 4);
         for (int request = 0; request < 40; request++) {
             z.arrive(request % 4, 0xfff);
@@ -642,6 +658,29 @@ public final class PromisesTest {
         CHECK.due("22: greatestPossible() of all", 40, () -> z.greatestPossible());
         z.setGroup(2, 3, 1);
         CHECK.due("22: greatestPossible() with a quota", 33, () -> z.greatestPossible());
+    }
+
+    /** The path limit 0 keeps requests waiting that could be assigned. */
+    private static void greatestAboveStanding() {
+        MatchingService x = withResources(1, 1, 1, 1);
+        x.setLimits(0, 3);
+        arriveAll(x, 1, 0b0011, 0b1100);
+        arriveAll(x, 0, 0b0001, 0b0100);
+        stands("22: two wait", "0 2 w w", x);
+        CHECK.due("22: greatestPossible() of two groups", 4, () -> x.greatestPossible());
+        x.setGroup(0, 1, 1);
+        CHECK.due("22: greatestPossible() where the quota keeps one out", 3, () -> x.greatestPossible());
+
+        MatchingService y = withResources(1, 2);
+        y.setLimits(0, 3);
+        arriveAll(y, 0, 0b11, 0b01);
+        CHECK.due("22: greatestPossible() with a place left over", 2, () -> y.greatestPossible());
+
+        MatchingService z = withResources(2, 1);
+        z.setLimits(0, 3);
+        arriveAll(z, 0, 0b11, 0b11, 0b01, 0b01);
+        stands("22: two at the first", "0 0 w w", z);
+        CHECK.due("22: greatestPossible() at the capacities", 3, () -> z.greatestPossible());
     }
 
     private static void promise23GainBy() {
