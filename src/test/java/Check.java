@@ -6,12 +6,21 @@ final class Check {
         Object answer();
     }
 
+    /** The first ones tell enough. */
+    private static final int MOST_PRINTED = 40;
+
     private final String test;
+    private String heading = "";
     private int calls;
     private int wrong;
 
     Check(String test) {
         this.test = test;
+    }
+
+    /** What comes next is told under this heading if it is wrong. */
+    void under(String itsHeading) {
+        heading = itsHeading + "\n    ";
     }
 
     /** The due answer is a value, or the class of the exception that the call must throw. */
@@ -20,7 +29,13 @@ final class Check {
         calls++;
         if (!got.equals(due)) {
             wrong++;
-            System.out.println(test + ": " + name + " answered " + got + ", due is " + due);
+            print(test + ": " + heading + name + " answered " + got + ", due is " + due);
+        }
+    }
+
+    private void print(String line) {
+        if (wrong <= MOST_PRINTED) {
+            System.out.println(line);
         }
     }
 

@@ -34,11 +34,11 @@ public final class ModelTest {
     private final Model model = new Model();
     private final Shape shape;
     private final StringBuilder story = new StringBuilder();
-    private long sequence;
+    private final Draw draw;
 
     private ModelTest(Shape shape, int run) {
         this.shape = shape;
-        this.sequence = run * 7919L + shape.name.hashCode();
+        this.draw = new Draw(run * 7919L + shape.name.hashCode());
     }
 
     public static void main(String[] args) {
@@ -55,14 +55,14 @@ public final class ModelTest {
             change();
             both("digest");
             for (int look = 0; look < LOOKS; look++) {
-                look(LOOKED_AT.get(draw(LOOKED_AT.size())));
+                look(LOOKED_AT.get(draw.below(LOOKED_AT.size())));
             }
         }
     }
 
     private void change() {
         int resources = model.resourceCount();
-        int kind = draw(100);
+        int kind = draw.below(100);
         if (resources < 2 || (kind < 8 && resources < shape.resources)) {
             both("addResource", number(0, shape.greatestCapacity));
         } else if (kind < 45) {
@@ -74,9 +74,9 @@ public final class ModelTest {
         } else if (kind < 84) {
             both("setCapacity", number(0, resources - 1), number(0, shape.greatestCapacity));
         } else if (kind < 94) {
-            both("setGroup", number(0, 3), draw(3) == 0 ? number(0, 4) : number(0, 40), number(1, 10));
+            both("setGroup", number(0, 3), draw.below(3) == 0 ? number(0, 4) : number(0, 40), number(1, 10));
         } else {
-            both("setLimits", number(0, 5), number(0, draw(2) == 0 ? 2 : 20));
+            both("setLimits", number(0, 5), number(0, draw.below(2) == 0 ? 2 : 20));
         }
     }
 
@@ -134,28 +134,23 @@ public final class ModelTest {
     }
 
     private int number(int least, int greatest) {
-        if (draw(100) >= shape.wrongInHundred) {
-            return greatest < least ? least : least + draw(greatest - least + 1);
+        if (draw.below(100) >= shape.wrongInHundred) {
+            return greatest < least ? least : least + draw.below(greatest - least + 1);
         }
         int[] wrong = {least - 1, greatest + 1, 41, 12, Integer.MIN_VALUE, Integer.MAX_VALUE, least, greatest};
-        return wrong[draw(wrong.length)];
+        return wrong[draw.below(wrong.length)];
     }
 
     private int mask() {
         int all = (1 << model.resourceCount()) - 1;
-        if (draw(100) < shape.wrongInHundred) {
+        if (draw.below(100) < shape.wrongInHundred) {
             int[] wrong = {-1, all + 1, Integer.MIN_VALUE, Integer.MAX_VALUE, 0, all, 1 << 12, 1 << 30};
-            return wrong[draw(wrong.length)];
+            return wrong[draw.below(wrong.length)];
         }
         int mask = 0;
         for (int i = 0; i < shape.bitsOfMask; i++) {
-            mask |= 1 << draw(model.resourceCount());
+            mask |= 1 << draw.below(model.resourceCount());
         }
         return mask;
-    }
-
-    private int draw(int bound) {
-        sequence = sequence * 6364136223846793005L + 1442695040888963407L;
-        return (int) ((sequence >>> 33) % bound);
     }
 }

@@ -1,14 +1,7 @@
-import java.util.NoSuchElementException;
-
 /** Each promise of the document by hand: ordinary inputs, edges, and wrong inputs. */
-public final class PromisesTest {
+public final class PromisesTest extends Scene {
 
     private static final Check CHECK = new Check("PromisesTest");
-
-    private static final Class<?> NO_INDEX = IndexOutOfBoundsException.class;
-    private static final Class<?> NO_ELEMENT = NoSuchElementException.class;
-    private static final Class<?> WRONG_ARGUMENT = IllegalArgumentException.class;
-    private static final Class<?> WRONG_STATE = IllegalStateException.class;
 
     public static void main(String[] args) {
         promise1NewObject();
@@ -48,56 +41,12 @@ public final class PromisesTest {
         CHECK.end();
     }
 
-    private static MatchingService withResources(int... capacities) {
-        MatchingService x = new MatchingService();
-        for (int capacity : capacities) {
-            x.addResource(capacity);
-        }
-        return x;
-    }
-
-    private static void arriveAll(MatchingService x, int group, int... masks) {
-        for (int mask : masks) {
-            x.arrive(group, mask);
-        }
-    }
-
-    /** For each request its resource, or w if it waits, or d if it has departed. */
-    private static String standing(MatchingService x) {
-        StringBuilder text = new StringBuilder();
-        for (int request = 0; request < x.arrivedCount(); request++) {
-            switch (x.state(request)) {
-                case 0 -> text.append('w');
-                case 1 -> text.append(x.resourceOf(request));
-                default -> text.append('d');
-            }
-            text.append(' ');
-        }
-        return text.toString().trim();
-    }
-
-    private static String logOf(MatchingService x) {
-        StringBuilder text = new StringBuilder();
-        for (int index = 0; index < x.moveCount(); index++) {
-            text.append(x.movedRequest(index)).append('>').append(x.movedTo(index)).append(' ');
-        }
-        return text.toString().trim();
-    }
-
     private static void stands(String name, String due, MatchingService x) {
         CHECK.due(name + ": where the requests stand", due, () -> standing(x));
     }
 
     private static void logged(String name, String due, MatchingService x) {
         CHECK.due(name + ": the log", due, () -> logOf(x));
-    }
-
-    private static long digestOf(int... numbers) {
-        long digest = 43;
-        for (int number : numbers) {
-            digest = digest * 31 + number;
-        }
-        return digest;
     }
 
     private static void promise1NewObject() {
