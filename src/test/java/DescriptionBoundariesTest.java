@@ -1,14 +1,10 @@
 import java.io.IOException;
 
 /** The boundary cases that the sentences of the description name; each test names its sentence. */
-public final class DescriptionBoundariesTest extends Scene {
-
-    private static final Check CHECK = new Check("DescriptionBoundariesTest");
-
-    private final Sentences sentences;
+public final class DescriptionBoundariesTest extends Boundaries {
 
     private DescriptionBoundariesTest() throws IOException {
-        sentences = new Sentences(CHECK);
+        super("DescriptionBoundariesTest");
     }
 
     public static void main(String[] args) throws IOException {
@@ -22,15 +18,7 @@ public final class DescriptionBoundariesTest extends Scene {
         test.run();
         test.puttingBackAndLog();
         test.allSentences();
-        CHECK.end();
-    }
-
-    private static void stands(String name, String due, MatchingService x) {
-        CHECK.due(name + ": where the requests stand", due, () -> standing(x));
-    }
-
-    private static void logged(String name, String due, MatchingService x) {
-        CHECK.due(name + ": the log", due, () -> logOf(x));
+        test.check.end();
     }
 
     private void lastOf512Calls() {
@@ -43,7 +31,7 @@ public final class DescriptionBoundariesTest extends Scene {
             x.setCapacity(0, 1);
         }
         x.setGroup(0, 40, 1);
-        CHECK.due("digest(), the 512th call", digestOf(2, 2, 1, 1, 1, 1, 1, 1, 1, 1, 0, 0, 0), () -> x.digest());
+        check.due("digest(), the 512th call", digestOf(2, 2, 1, 1, 1, 1, 1, 1, 1, 1, 0, 0, 0), () -> x.digest());
     }
 
     // ---- resources, groups, requests
@@ -62,18 +50,18 @@ public final class DescriptionBoundariesTest extends Scene {
         sentences.ofDescription("Resources are numbered from 0 in the order of their creation; "
                 + "there are at most 12.");
         MatchingService x = new MatchingService();
-        CHECK.due("load(0) without a resource", NO_INDEX, () -> x.load(0));
+        check.due("load(0) without a resource", NO_INDEX, () -> x.load(0));
         for (int number = 0; number < 12; number++) {
             int due = number;
             int capacity = number % 5;
-            CHECK.due("addResource, number " + due, due, () -> x.addResource(capacity));
-            CHECK.due("load of the newest", 0, () -> x.load(due));
-            CHECK.due("load of one that does not exist", NO_INDEX, () -> x.load(due + 1));
+            check.due("addResource, number " + due, due, () -> x.addResource(capacity));
+            check.due("load of the newest", 0, () -> x.load(due));
+            check.due("load of one that does not exist", NO_INDEX, () -> x.load(due + 1));
         }
-        CHECK.due("addResource(0), the 13th", WRONG_STATE, () -> x.addResource(0));
-        CHECK.due("resourceCount()", 12, () -> x.resourceCount());
+        check.due("addResource(0), the 13th", WRONG_STATE, () -> x.addResource(0));
+        check.due("resourceCount()", 12, () -> x.resourceCount());
         long due = digestOf(12, 0, 0, 0, 1, 0, 2, 0, 3, 0, 4, 0, 0, 0, 1, 0, 2, 0, 3, 0, 4, 0, 0, 0, 1, 0, 0);
-        CHECK.due("digest(), which tells the order of creation", due, () -> x.digest());
+        check.due("digest(), which tells the order of creation", due, () -> x.digest());
     }
 
     private void capacities() {
@@ -83,16 +71,16 @@ public final class DescriptionBoundariesTest extends Scene {
             int due = capacity;
             MatchingService x = withResources(due);
             arriveMany(x, 5, 0, 0b1);
-            CHECK.due("load(0) at capacity " + due, due, () -> x.load(0));
-            CHECK.due("waitingCount() at capacity " + due, 5 - due, () -> x.waitingCount());
-            CHECK.due("state of the first one that finds it full", 0, () -> x.state(due));
-            CHECK.due("greatestPossible() at capacity " + due, due, () -> x.greatestPossible());
+            check.due("load(0) at capacity " + due, due, () -> x.load(0));
+            check.due("waitingCount() at capacity " + due, 5 - due, () -> x.waitingCount());
+            check.due("state of the first one that finds it full", 0, () -> x.state(due));
+            check.due("greatestPossible() at capacity " + due, due, () -> x.greatestPossible());
         }
         MatchingService x = withResources(1);
-        CHECK.due("addResource(-1)", WRONG_ARGUMENT, () -> x.addResource(-1));
-        CHECK.due("addResource(5)", WRONG_ARGUMENT, () -> x.addResource(5));
-        CHECK.due("setCapacity(0, -1)", WRONG_ARGUMENT, () -> x.setCapacity(0, -1));
-        CHECK.due("setCapacity(0, 5)", WRONG_ARGUMENT, () -> x.setCapacity(0, 5));
+        check.due("addResource(-1)", WRONG_ARGUMENT, () -> x.addResource(-1));
+        check.due("addResource(5)", WRONG_ARGUMENT, () -> x.addResource(5));
+        check.due("setCapacity(0, -1)", WRONG_ARGUMENT, () -> x.setCapacity(0, -1));
+        check.due("setCapacity(0, 5)", WRONG_ARGUMENT, () -> x.setCapacity(0, 5));
     }
 
     private void groups() {
@@ -100,14 +88,14 @@ public final class DescriptionBoundariesTest extends Scene {
         MatchingService x = withResources(4);
         for (int group = 0; group <= 3; group++) {
             int number = group;
-            CHECK.due("arrive in group " + number, number, () -> x.arrive(number, 0b1));
-            CHECK.due("assignedOf(" + number + ")", 1, () -> x.assignedOf(number));
-            CHECK.due("setGroup of group " + number, 0, () -> x.setGroup(number, 1, 1));
+            check.due("arrive in group " + number, number, () -> x.arrive(number, 0b1));
+            check.due("assignedOf(" + number + ")", 1, () -> x.assignedOf(number));
+            check.due("setGroup of group " + number, 0, () -> x.setGroup(number, 1, 1));
         }
         for (int group : new int[] {-1, 4, Integer.MIN_VALUE, Integer.MAX_VALUE}) {
-            CHECK.due("arrive in group " + group, NO_INDEX, () -> x.arrive(group, 0b1));
-            CHECK.due("assignedOf(" + group + ")", NO_INDEX, () -> x.assignedOf(group));
-            CHECK.due("setGroup of group " + group, NO_INDEX, () -> x.setGroup(group, 1, 1));
+            check.due("arrive in group " + group, NO_INDEX, () -> x.arrive(group, 0b1));
+            check.due("assignedOf(" + group + ")", NO_INDEX, () -> x.assignedOf(group));
+            check.due("setGroup of group " + group, NO_INDEX, () -> x.setGroup(group, 1, 1));
         }
     }
 
@@ -123,26 +111,26 @@ public final class DescriptionBoundariesTest extends Scene {
             smallestAndGreatestWeight(group);
         }
         MatchingService x = new MatchingService();
-        CHECK.due("quota -1", WRONG_ARGUMENT, () -> x.setGroup(0, -1, 1));
-        CHECK.due("quota 41", WRONG_ARGUMENT, () -> x.setGroup(0, 41, 1));
-        CHECK.due("weight 0", WRONG_ARGUMENT, () -> x.setGroup(0, 40, 0));
-        CHECK.due("weight 11", WRONG_ARGUMENT, () -> x.setGroup(0, 40, 11));
+        check.due("quota -1", WRONG_ARGUMENT, () -> x.setGroup(0, -1, 1));
+        check.due("quota 41", WRONG_ARGUMENT, () -> x.setGroup(0, 41, 1));
+        check.due("weight 0", WRONG_ARGUMENT, () -> x.setGroup(0, 40, 0));
+        check.due("weight 11", WRONG_ARGUMENT, () -> x.setGroup(0, 40, 11));
     }
 
     private void quotaAtFirst(int group) {
         MatchingService x = withTwelve(4);
         arriveMany(x, 40, group, ALL_TWELVE);
-        CHECK.due("assignedOf(" + group + ") of forty, without setGroup", 40, () -> x.assignedOf(group));
-        CHECK.due("greatestPossible() of forty, without setGroup", 40, () -> x.greatestPossible());
+        check.due("assignedOf(" + group + ") of forty, without setGroup", 40, () -> x.assignedOf(group));
+        check.due("greatestPossible() of forty, without setGroup", 40, () -> x.greatestPossible());
     }
 
     private void quotaBounds(int group, int quota) {
         MatchingService x = withTwelve(4);
         x.setGroup(group, quota, 1);
         arriveMany(x, 40, group, ALL_TWELVE);
-        CHECK.due("assignedOf(" + group + ") at quota " + quota, quota, () -> x.assignedOf(group));
-        CHECK.due("waitingCount() at quota " + quota, 40 - quota, () -> x.waitingCount());
-        CHECK.due("greatestPossible() at quota " + quota, quota, () -> x.greatestPossible());
+        check.due("assignedOf(" + group + ") at quota " + quota, quota, () -> x.assignedOf(group));
+        check.due("waitingCount() at quota " + quota, 40 - quota, () -> x.waitingCount());
+        check.due("greatestPossible() at quota " + quota, quota, () -> x.greatestPossible());
     }
 
     private void weightAtFirst(int group) {
@@ -150,17 +138,17 @@ public final class DescriptionBoundariesTest extends Scene {
         x.setGroup((group + 1) % 4, 40, 1);
         x.arrive(group, 0b1);
         x.arrive((group + 1) % 4, 0b1);
-        CHECK.due("fairness() of weight 1 and of group " + group + " without setGroup", 0.5, () -> x.fairness());
+        check.due("fairness() of weight 1 and of group " + group + " without setGroup", 0.5, () -> x.fairness());
     }
 
     private void smallestAndGreatestWeight(int group) {
         int other = (group + 2) % 4;
         MatchingService x = withTwelve(4);
-        CHECK.due("weight 10", 0, () -> x.setGroup(group, 40, 10));
-        CHECK.due("weight 1", 0, () -> x.setGroup(other, 40, 1));
+        check.due("weight 10", 0, () -> x.setGroup(group, 40, 10));
+        check.due("weight 1", 0, () -> x.setGroup(other, 40, 1));
         arriveMany(x, 10, group, ALL_TWELVE);
         x.arrive(other, ALL_TWELVE);
-        CHECK.due("fairness() of ten at weight 10 and one at weight 1", 0.5, () -> x.fairness());
+        check.due("fairness() of ten at weight 10 and one at weight 1", 0.5, () -> x.fairness());
     }
 
     private void fortyRequests() {
@@ -169,13 +157,13 @@ public final class DescriptionBoundariesTest extends Scene {
         MatchingService x = new MatchingService();
         for (int number = 0; number < 40; number++) {
             int due = number;
-            CHECK.due("state of the next one", NO_INDEX, () -> x.state(due));
-            CHECK.due("arrive, number " + due, due, () -> x.arrive(due % 4, 0));
+            check.due("state of the next one", NO_INDEX, () -> x.state(due));
+            check.due("arrive, number " + due, due, () -> x.arrive(due % 4, 0));
         }
-        CHECK.due("arrive, the 41st", WRONG_STATE, () -> x.arrive(0, 0));
+        check.due("arrive, the 41st", WRONG_STATE, () -> x.arrive(0, 0));
         departAll(x);
-        CHECK.due("arrive when all forty have departed", WRONG_STATE, () -> x.arrive(0, 0));
-        CHECK.due("arrivedCount()", 40, () -> x.arrivedCount());
+        check.due("arrive when all forty have departed", WRONG_STATE, () -> x.arrive(0, 0));
+        check.due("arrivedCount()", 40, () -> x.arrivedCount());
     }
 
     private void masks() {
@@ -185,12 +173,12 @@ public final class DescriptionBoundariesTest extends Scene {
         for (int resource = 11; resource >= 0; resource--) {
             int due = resource;
             int request = x.arrive(0, 1 << due);
-            CHECK.due("resourceOf, of the mask 2^" + due, due, () -> x.resourceOf(request));
+            check.due("resourceOf, of the mask 2^" + due, due, () -> x.resourceOf(request));
         }
         MatchingService y = withTwelve(1);
         arriveAll(y, 0, 1 + 2048, 1 + 2048, 1 + 2048, 0, ALL_TWELVE);
         stands("2^0 + 2^11, no power at all, all powers", "0 11 w w 1", y);
-        CHECK.due("arrive with a power too many", WRONG_ARGUMENT, () -> y.arrive(0, 4096));
+        check.due("arrive with a power too many", WRONG_ARGUMENT, () -> y.arrive(0, 4096));
     }
 
     private void threeStates() {
@@ -199,9 +187,9 @@ public final class DescriptionBoundariesTest extends Scene {
         arriveAll(x, 0, 0b10, 0b10, 0b10);
         x.depart(2);
         stands("one each, and the free place is not accepted", "1 w d", x);
-        CHECK.due("state(0)", 1, () -> x.state(0));
-        CHECK.due("state(1)", 0, () -> x.state(1));
-        CHECK.due("state(2)", 2, () -> x.state(2));
+        check.due("state(0)", 1, () -> x.state(0));
+        check.due("state(1)", 0, () -> x.state(1));
+        check.due("state(2)", 2, () -> x.state(2));
     }
 
     // ---- limits
@@ -222,18 +210,18 @@ public final class DescriptionBoundariesTest extends Scene {
         }
         pathLimitIs(2, chain(3));
         MatchingService x = new MatchingService();
-        CHECK.due("path limit -1", WRONG_ARGUMENT, () -> x.setLimits(-1, 3));
-        CHECK.due("path limit 6", WRONG_ARGUMENT, () -> x.setLimits(6, 3));
+        check.due("path limit -1", WRONG_ARGUMENT, () -> x.setLimits(-1, 3));
+        check.due("path limit 6", WRONG_ARGUMENT, () -> x.setLimits(6, 3));
     }
 
     /** The chain is one longer than the limit. */
     private void pathLimitIs(int limit, MatchingService chain) {
         int tooFar = chain.arrive(1, 0b01);
-        CHECK.due("state of one that needs " + (limit + 1) + " moves", 0, () -> chain.state(tooFar));
-        CHECK.due("movesNeeded", limit + 1, () -> chain.movesNeeded(tooFar));
+        check.due("state of one that needs " + (limit + 1) + " moves", 0, () -> chain.state(tooFar));
+        check.due("movesNeeded", limit + 1, () -> chain.movesNeeded(tooFar));
         int near = chain.arrive(1, 0b10);
-        CHECK.due("state of one that needs " + limit + " moves", 1, () -> chain.state(near));
-        CHECK.due("moveCount()", limit, () -> chain.moveCount());
+        check.due("state of one that needs " + limit + " moves", 1, () -> chain.state(near));
+        check.due("moveCount()", limit, () -> chain.moveCount());
     }
 
     private void moveLimit() {
@@ -247,20 +235,20 @@ public final class DescriptionBoundariesTest extends Scene {
         moveLimitIs(3, withResources(1, 1));
         lifeGoesOn();
         MatchingService x = new MatchingService();
-        CHECK.due("move limit -1", WRONG_ARGUMENT, () -> x.setLimits(2, -1));
-        CHECK.due("move limit 21", WRONG_ARGUMENT, () -> x.setLimits(2, 21));
+        check.due("move limit -1", WRONG_ARGUMENT, () -> x.setLimits(2, -1));
+        check.due("move limit 21", WRONG_ARGUMENT, () -> x.setLimits(2, 21));
     }
 
     private void moveLimitIs(int limit, MatchingService x) {
         x.arrive(0, 0b11);
         for (int move = 1; move <= limit; move++) {
-            CHECK.due("state of the one that moves it, time " + move, 1, () -> x.state(displace(x)));
+            check.due("state of the one that moves it, time " + move, 1, () -> x.state(displace(x)));
             x.depart(x.arrivedCount() - 1);
         }
-        CHECK.due("movesOf(0) at the limit", limit, () -> x.movesOf(0));
-        CHECK.due("state of the one that cannot move it any more", 0, () -> x.state(displace(x)));
-        CHECK.due("movesOf(0) then", limit, () -> x.movesOf(0));
-        CHECK.due("state(0)", 1, () -> x.state(0));
+        check.due("movesOf(0) at the limit", limit, () -> x.movesOf(0));
+        check.due("state of the one that cannot move it any more", 0, () -> x.state(displace(x)));
+        check.due("movesOf(0) then", limit, () -> x.movesOf(0));
+        check.due("state(0)", 1, () -> x.state(0));
     }
 
     /** A request arrives that accepts only the resource of request 0. */
@@ -276,8 +264,8 @@ public final class DescriptionBoundariesTest extends Scene {
         x.depart(1);
         x.setAccepts(0, 0);
         x.setAccepts(0, 0b11);
-        CHECK.due("resourceOf(0), put back and placed again", 0, () -> x.resourceOf(0));
-        CHECK.due("state of one that would move it a second time in its life", 0, () -> x.state(displace(x)));
+        check.due("resourceOf(0), put back and placed again", 0, () -> x.resourceOf(0));
+        check.due("state of one that would move it a second time in its life", 0, () -> x.state(displace(x)));
     }
 
     private void whoCanBeMoved() {
@@ -291,13 +279,13 @@ public final class DescriptionBoundariesTest extends Scene {
         x.setLimits(2, 2);
         displace(x);
         stands("moved twice, at limit 2", "0 d d w", x);
-        CHECK.due("movesNeeded(3) at limit 2", -1, () -> x.movesNeeded(3));
-        CHECK.due("setLimits(2, 1), below what it was moved", 0, () -> x.setLimits(2, 1));
+        check.due("movesNeeded(3) at limit 2", -1, () -> x.movesNeeded(3));
+        check.due("setLimits(2, 1), below what it was moved", 0, () -> x.setLimits(2, 1));
         stands("moved twice, at limit 1: it stays", "0 d d w", x);
-        CHECK.due("movesNeeded(3) at limit 1", -1, () -> x.movesNeeded(3));
-        CHECK.due("setLimits(0, 3)", 0, () -> x.setLimits(0, 3));
-        CHECK.due("movesNeeded(3) at limit 3", 1, () -> x.movesNeeded(3));
-        CHECK.due("setLimits(2, 3)", 1, () -> x.setLimits(2, 3));
+        check.due("movesNeeded(3) at limit 1", -1, () -> x.movesNeeded(3));
+        check.due("setLimits(0, 3)", 0, () -> x.setLimits(0, 3));
+        check.due("movesNeeded(3) at limit 3", 1, () -> x.movesNeeded(3));
+        check.due("setLimits(2, 3)", 1, () -> x.setLimits(2, 3));
         stands("moved twice, at limit 3", "1 d d 0", x);
     }
 
@@ -327,6 +315,15 @@ public final class DescriptionBoundariesTest extends Scene {
         nobody.arrive(0, 0b01);
         needed("nobody is assigned to a1", -1, 0b01, nobody);
 
+        MatchingService changed = withResources(1, 1, 1);
+        changed.setLimits(0, 3);
+        arriveAll(changed, 0, 0b101, 0b110);
+        needed("r1 accepts the free resource", 1, 0b001, changed);
+        changed.setAccepts(0, 0b011);
+        needed("r1 does not accept it any more, but r2 does", 2, 0b001, changed);
+        changed.setAccepts(1, 0b010);
+        needed("r2 does not accept it any more", -1, 0b001, changed);
+
         for (int capacity = 1; capacity <= 4; capacity++) {
             MatchingService almost = withOneAtFirst(0b11, capacity);
             arriveMany(almost, capacity - 1, 1, 0b10);
@@ -345,9 +342,9 @@ public final class DescriptionBoundariesTest extends Scene {
         return x;
     }
 
-    private static void needed(String name, int due, int mask, MatchingService x) {
+    private void needed(String name, int due, int mask, MatchingService x) {
         int request = x.arrive(2, mask);
-        CHECK.due("movesNeeded if " + name, due, () -> x.movesNeeded(request));
+        check.due("movesNeeded if " + name, due, () -> x.movesNeeded(request));
     }
 
     private void longestPath() {
@@ -358,7 +355,7 @@ public final class DescriptionBoundariesTest extends Scene {
         for (int first = 0; first <= 11; first++) {
             int request = x.arrive(3, 1 << first);
             int resources = 12 - first;
-            CHECK.due("movesNeeded along " + resources, resources - 1, () -> x.movesNeeded(request));
+            check.due("movesNeeded along " + resources, resources - 1, () -> x.movesNeeded(request));
         }
     }
 
@@ -396,6 +393,7 @@ public final class DescriptionBoundariesTest extends Scene {
         best("a1 alone", "0", "", withResources(1, 1), 0b11);
         best("a1 before r1 and a2", "1 3 0", "1>3", withOneAt1And0(), 0b0011);
         best("r1 before a2", "2 0 0", "0>2", withResources(2, 1, 1), 0b101, 0b011, 0b001);
+        best("r1, of those that lead on", "0 1 0", "1>1", withResources(2, 1), 0b01, 0b11, 0b01);
         best("a2", "1 0", "0>1", withResources(1, 1, 1), 0b111, 0b001);
         best("a2 before r2 and a3", "2 4 1 0", "2>1 1>4", withResources(1, 1, 1, 1, 1),
                 0b01100, 0b10010, 0b00111, 0b00001);
@@ -413,7 +411,7 @@ public final class DescriptionBoundariesTest extends Scene {
         return x;
     }
 
-    private static void best(String name, String stand, String log, MatchingService x, int... masks) {
+    private void best(String name, String stand, String log, MatchingService x, int... masks) {
         arriveAll(x, 0, masks);
         stands(name, stand, x);
         logged(name, log, x);
@@ -467,11 +465,11 @@ public final class DescriptionBoundariesTest extends Scene {
         logged("the greatest number of moves", "0>1 1>2 2>3 3>4 4>5", x);
         for (int request = 0; request <= 5; request++) {
             int number = request;
-            CHECK.due("movesOf(" + number + ")", number == 5 ? 0 : 1, () -> x.movesOf(number));
-            CHECK.due("load(" + number + ")", 1, () -> x.load(number));
+            check.due("movesOf(" + number + ")", number == 5 ? 0 : 1, () -> x.movesOf(number));
+            check.due("load(" + number + ")", 1, () -> x.load(number));
         }
-        CHECK.due("assignedOf(0), whose requests were moved", 5, () -> x.assignedOf(0));
-        CHECK.due("assignedOf(1)", 1, () -> x.assignedOf(1));
+        check.due("assignedOf(0), whose requests were moved", 5, () -> x.assignedOf(0));
+        check.due("assignedOf(1)", 1, () -> x.assignedOf(1));
 
         MatchingService falling = withResources(1, 1, 1);
         arriveAll(falling, 0, 0b100, 0b010);
@@ -494,17 +492,17 @@ public final class DescriptionBoundariesTest extends Scene {
     private void eachAtMostOnce() {
         sentences.ofDescription("A run tries waiting requests, each one at most once.");
         MatchingService none = new MatchingService();
-        CHECK.due("setLimits(5, 20) without a request", 0, () -> none.setLimits(5, 20));
+        check.due("setLimits(5, 20) without a request", 0, () -> none.setLimits(5, 20));
         arriveMany(none, 40, 0, 0);
-        CHECK.due("setLimits(5, 20), where none of forty can be placed", 0, () -> none.setLimits(5, 20));
-        CHECK.due("waitingCount()", 40, () -> none.waitingCount());
+        check.due("setLimits(5, 20), where none of forty can be placed", 0, () -> none.setLimits(5, 20));
+        check.due("waitingCount()", 40, () -> none.waitingCount());
 
         MatchingService all = withTwelve(4);
         all.setGroup(2, 0, 1);
         arriveMany(all, 40, 2, ALL_TWELVE);
-        CHECK.due("waitingCount() before", 40, () -> all.waitingCount());
+        check.due("waitingCount() before", 40, () -> all.waitingCount());
         all.setGroup(2, 40, 1);
-        CHECK.due("assignedCount(), where all of forty can be placed", 40, () -> all.assignedCount());
+        check.due("assignedCount(), where all of forty can be placed", 40, () -> all.assignedCount());
     }
 
     private void untilAllAreTried() {
@@ -521,15 +519,20 @@ public final class DescriptionBoundariesTest extends Scene {
     }
 
     private void equalQuotients() {
-        MatchingService x = withResources(0);
-        for (int group = 3; group >= 0; group--) {
-            x.arrive(group, 1);
+        MatchingService falling = withResources(0);
+        MatchingService rising = withResources(0);
+        for (int group = 0; group <= 3; group++) {
+            falling.arrive(3 - group, 1);
+            rising.arrive(group, 1);
         }
         for (int group = 0; group <= 3; group++) {
-            x.setCapacity(0, group + 1);
-            int due = 3 - group;
-            CHECK.due("state(" + due + ") at capacity " + (group + 1), 1, () -> x.state(due));
-            CHECK.due("assignedCount()", group + 1, () -> x.assignedCount());
+            falling.setCapacity(0, group + 1);
+            rising.setCapacity(0, group + 1);
+            int number = group;
+            check.due("the last one placed, as they arrived falling", 1, () -> falling.state(3 - number));
+            check.due("the last one placed, as they arrived rising", 1, () -> rising.state(number));
+            check.due("assignedCount(), falling", number + 1, () -> falling.assignedCount());
+            check.due("assignedCount(), rising", number + 1, () -> rising.assignedCount());
         }
     }
 
@@ -552,7 +555,7 @@ public final class DescriptionBoundariesTest extends Scene {
     }
 
     /** Of the first two groups one finds the only place; each has so many assigned at so much weight. */
-    private static void served(String name, int due, int assigned0, int weight0, int assigned1, int weight1) {
+    private void served(String name, int due, int assigned0, int weight0, int assigned1, int weight1) {
         MatchingService x = withResources(4, 4, 0);
         x.setGroup(0, 40, weight0);
         x.setGroup(1, 40, weight1);
@@ -561,8 +564,8 @@ public final class DescriptionBoundariesTest extends Scene {
         int first = x.arrive(1, 0b100);
         int second = x.arrive(0, 0b100);
         x.setCapacity(2, 1);
-        CHECK.due("served of " + name, due, () -> x.state(second) == 1 ? 0 : 1);
-        CHECK.due("only one is", 1, () -> x.state(first) + x.state(second));
+        check.due("served of " + name, due, () -> x.state(second) == 1 ? 0 : 1);
+        check.due("only one is", 1, () -> x.state(first) + x.state(second));
     }
 
     private void quotientsOfTheMoment() {
@@ -615,13 +618,13 @@ public final class DescriptionBoundariesTest extends Scene {
         MatchingService x = withResources(1);
         x.arrive(3, 1);
         x.setCapacity(0, 0);
-        CHECK.due("state(0)", 0, () -> x.state(0));
-        CHECK.due("waitingCount()", 1, () -> x.waitingCount());
-        CHECK.due("assignedCount()", 0, () -> x.assignedCount());
-        CHECK.due("assignedOf(3)", 0, () -> x.assignedOf(3));
-        CHECK.due("load(0)", 0, () -> x.load(0));
-        CHECK.due("resourceOf(0)", NO_ELEMENT, () -> x.resourceOf(0));
-        CHECK.due("movesNeeded(0)", -1, () -> x.movesNeeded(0));
+        check.due("state(0)", 0, () -> x.state(0));
+        check.due("waitingCount()", 1, () -> x.waitingCount());
+        check.due("assignedCount()", 0, () -> x.assignedCount());
+        check.due("assignedOf(3)", 0, () -> x.assignedOf(3));
+        check.due("load(0)", 0, () -> x.load(0));
+        check.due("resourceOf(0)", NO_ELEMENT, () -> x.resourceOf(0));
+        check.due("movesNeeded(0)", -1, () -> x.movesNeeded(0));
     }
 
     private void changesClearTheLog() {
@@ -646,8 +649,54 @@ public final class DescriptionBoundariesTest extends Scene {
         logged("nobody can move", "", y);
         y.setAccepts(0, 0b110);
         logged("one moves in the run", "0>2", y);
-        CHECK.due("setAccepts(0, 4), again", true, () -> y.setAccepts(0, 0b100));
+        check.due("setAccepts(0, 4), again", true, () -> y.setAccepts(0, 0b100));
         logged("no move in the run", "", y);
+
+        cleared("addResource", z -> z.addResource(0));
+        cleared("setCapacity", z -> z.setCapacity(1, 1));
+        cleared("setGroup", z -> z.setGroup(3, 40, 1));
+        cleared("setLimits", z -> z.setLimits(2, 3));
+        cleared("arrive", z -> z.arrive(0, 0));
+        cleared("depart", z -> z.depart(2));
+        cleared("setAccepts", z -> z.setAccepts(2, 0));
+
+        logIs("0>1", "resourceCount", z -> z.resourceCount());
+        logIs("0>1", "arrivedCount", z -> z.arrivedCount());
+        logIs("0>1", "assignedCount", z -> z.assignedCount());
+        logIs("0>1", "waitingCount", z -> z.waitingCount());
+        logIs("0>1", "assignedOf", z -> z.assignedOf(0));
+        logIs("0>1", "load", z -> z.load(0));
+        logIs("0>1", "state", z -> z.state(0));
+        logIs("0>1", "resourceOf", z -> z.resourceOf(0));
+        logIs("0>1", "movesOf", z -> z.movesOf(0));
+        logIs("0>1", "movesNeeded", z -> z.movesNeeded(2));
+        logIs("0>1", "greatestPossible", z -> z.greatestPossible());
+        logIs("0>1", "gainBy", z -> z.gainBy(2));
+        logIs("0>1", "fairness", z -> z.fairness());
+        logIs("0>1", "digest", z -> z.digest());
+    }
+
+    /** A call on a service whose request 0 was just moved, whose request 2 waits, and whose request 3 was placed. */
+    private interface Call {
+        Object on(MatchingService x);
+    }
+
+    private void cleared(String name, Call change) {
+        MatchingService x = logIs("", name, change);
+        check.due("moveCount() after " + name, 0, () -> x.moveCount());
+        check.due("movedRequest(0) after " + name, NO_INDEX, () -> x.movedRequest(0));
+        check.due("movedTo(0) after " + name, NO_INDEX, () -> x.movedTo(0));
+    }
+
+    private MatchingService logIs(String due, String name, Call call) {
+        MatchingService x = withResources(1, 1);
+        arriveAll(x, 0, 0b11, 0b10, 0b00);
+        x.depart(1);
+        x.arrive(0, 0b01);
+        logged("before " + name, "0>1", x);
+        check.due("whether " + name + " throws", false, () -> Check.answerOf(() -> call.on(x)) instanceof Class);
+        logged("after " + name, due, x);
+        return x;
     }
 
     private void refusedCalls() {
@@ -656,15 +705,15 @@ public final class DescriptionBoundariesTest extends Scene {
         MatchingService x = withResources(1, 1);
         arriveAll(x, 0, 0b11, 0b01);
         long digest = x.digest();
-        CHECK.due("setCapacity(2, 5)", NO_INDEX, () -> x.setCapacity(2, 5));
-        CHECK.due("setCapacity(0, 5)", WRONG_ARGUMENT, () -> x.setCapacity(0, 5));
+        check.due("setCapacity(2, 5)", NO_INDEX, () -> x.setCapacity(2, 5));
+        check.due("setCapacity(0, 5)", WRONG_ARGUMENT, () -> x.setCapacity(0, 5));
         logged("as before", "0>1", x);
-        CHECK.due("digest(), as before", digest, () -> x.digest());
+        check.due("digest(), as before", digest, () -> x.digest());
     }
 
     private void allSentences() {
-        CHECK.under("all sentences of the description");
-        CHECK.due("what no test is for", "Resources, groups, requests. Limits. Placing a request.",
+        check.under("all sentences of the description");
+        check.due("what no test is for", "Resources, groups, requests. Limits. Placing a request.",
                 () -> sentences.leftOfDescription());
     }
 }

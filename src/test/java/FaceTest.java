@@ -96,7 +96,8 @@ public final class FaceTest {
 
     private static long countOpenClasses(Class<?> face) {
         return Arrays.stream(face.getDeclaredClasses())
-                .filter(inside -> Modifier.isPublic(inside.getModifiers()) || Modifier.isProtected(inside.getModifiers()))
+                .mapToInt(Class::getModifiers)
+                .filter(modifiers -> Modifier.isPublic(modifiers) || Modifier.isProtected(modifiers))
                 .count();
     }
 

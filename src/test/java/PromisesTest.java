@@ -673,7 +673,8 @@ public final class PromisesTest extends Scene {
         double s = 1.0 / 3.0 + 3.0 / 7.0 + 1.0 / 10.0 + 1.0;
         double q = 1.0 / 3.0 * (1.0 / 3.0) + 3.0 / 7.0 * (3.0 / 7.0) + 1.0 / 10.0 * (1.0 / 10.0) + 1.0;
         CHECK.due("24: fairness() by weights", s * s / (4 * q), () -> x.fairness());
-        CHECK.due("24: fairness() by weights, as a number", 0.6642263777133, () -> Math.round(x.fairness() * 1e13) / 1e13);
+        CHECK.due("24: fairness() by weights, as a number", 0.6642263777133,
+                () -> Math.round(x.fairness() * 1e13) / 1e13);
     }
 
     private static void promise25Digest() {

@@ -62,6 +62,42 @@ abstract class Scene {
         return x;
     }
 
+    static MatchingService withForty() {
+        MatchingService x = withTwelve(4);
+        for (int request = 0; request < 40; request++) {
+            x.arrive(request % 4, ALL_TWELVE);
+        }
+        return x;
+    }
+
+    /** Request 0 waits, 1 is assigned, 2 has departed. */
+    static MatchingService withEachState() {
+        MatchingService x = withResources(0, 1);
+        arriveAll(x, 0, 0b01, 0b10, 0b10);
+        x.depart(2);
+        return x;
+    }
+
+    /** Requests 0 and 1 were moved, in this order. */
+    static MatchingService withTwoMoves() {
+        MatchingService x = chain(2);
+        x.arrive(0, 0b1);
+        return x;
+    }
+
+    /** Requests 0 to 5 could each give its resource, an even one, to one of the six that wait. */
+    static MatchingService sixPairs() {
+        MatchingService x = withTwelve(1);
+        x.setLimits(0, 0);
+        for (int pair = 0; pair < 6; pair++) {
+            x.arrive(0, 0b11 << 2 * pair);
+        }
+        for (int pair = 0; pair < 6; pair++) {
+            x.arrive(1, 0b1 << 2 * pair);
+        }
+        return x;
+    }
+
     /** For each request its resource, or w if it waits, or d if it has departed. */
     static String standing(MatchingService x) {
         StringBuilder text = new StringBuilder();

@@ -49,10 +49,10 @@ final class Sentences {
         return left.replaceAll("\\s+", " ").trim();
     }
 
-    /** The lines of all promises that were not named. */
-    List<String> leftOfPromises(int promises) {
+    /** The lines of these promises that were not named. */
+    List<String> leftOfPromises(int first, int last) {
         List<String> left = new ArrayList<>();
-        for (int promise = 1; promise <= promises; promise++) {
+        for (int promise = first; promise <= last; promise++) {
             for (String line : linesOf(promise)) {
                 String sentence = "Promise " + promise + ": " + line;
                 if (!quoted.contains(sentence)) {
