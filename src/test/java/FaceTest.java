@@ -1,10 +1,12 @@
 import java.io.IOException;
+import java.io.UncheckedIOException;
 import java.lang.reflect.Constructor;
 import java.lang.reflect.Field;
 import java.lang.reflect.Method;
 import java.lang.reflect.Modifier;
 import java.nio.file.Files;
 import java.nio.file.Path;
+import java.util.ArrayList;
 import java.util.Arrays;
 import java.util.List;
 import java.util.Set;
@@ -43,8 +45,14 @@ public final class FaceTest {
             "double fairness()",
             "long digest()"));
 
+    /** Rule 11 of LANGUAGE.md. */
+    private static final int MOST_CLASSES = 12;
+    private static final int MOST_FIELDS = 20;
+    private static final int MOST_PARAMETERS = 7;
+
     public static void main(String[] args) throws IOException {
         Class<?> face = MatchingService.class;
+        CHECK.due("the methods of the document", FACE, () -> methodsOf(document()));
         CHECK.due("the methods that are not private", FACE, () -> methodsOf(face));
         CHECK.due("public and final", true,
                 () -> Modifier.isPublic(face.getModifiers()) && Modifier.isFinal(face.getModifiers()));
@@ -53,17 +61,62 @@ public final class FaceTest {
         CHECK.due("classes inside that are public or protected", 0L, () -> countOpenClasses(face));
         CHECK.due("private methods with a public one's name", Set.of(), () -> namesTwiceUsed(face));
         CHECK.due("static fields that are not final", 0L, () -> countChangingStatics(face));
+        lookAtSizes(face);
         lookAtSource(Files.readString(Path.of("src/main/java/MatchingService.java")));
         CHECK.end();
     }
 
+    private static String document() {
+        try {
+            return Files.readString(Path.of("../shared/DOC.md"));
+        } catch (IOException e) {
+            throw new UncheckedIOException(e);
+        }
+    }
+
+    private static void lookAtSizes(Class<?> face) {
+        List<Class<?>> classes = new ArrayList<>(List.of(face.getDeclaredClasses()));
+        classes.add(face);
+        CHECK.due("at most twelve classes", true, () -> classes.size() <= MOST_CLASSES);
+        for (Class<?> each : classes) {
+            CHECK.due("at most twenty fields: " + each.getName(), true, () -> countOwnFields(each) <= MOST_FIELDS);
+            for (Method method : each.getDeclaredMethods()) {
+                CHECK.due("at most seven parameters: " + method, true,
+                        () -> method.getParameterCount() <= MOST_PARAMETERS);
+            }
+        }
+    }
+
     private static void lookAtSource(String source) {
+        CHECK.due("what is made, but for exceptions and the fields' first values",
+                List.of("Pool", "MoveLog", "PathSearch", "Placer", "Flow"), () -> madeIn(source));
         CHECK.due("imports", List.of("import java.util.NoSuchElementException;"),
                 () -> source.lines().filter(line -> line.startsWith("import")).toList());
         for (String word : List.of("package ", "catch ", "finally", "synchronized", "assert ", "->", "::", "System.",
                 "Exact(", "NaN", "instanceof")) {
             CHECK.due("the source holds '" + word + "'", false, () -> source.contains(word));
         }
+    }
+
+    /** The room of all calls is one: so nothing is made but in constructors, and exceptions. */
+    private static List<String> madeIn(String source) {
+        return source.lines()
+                .filter(line -> line.contains("new ") && !line.contains("throw new ")
+                        && !line.trim().startsWith("private final "))
+                .map(line -> line.replaceAll(".*new (\\w+).*", "$1"))
+                .toList();
+    }
+
+    private static Set<String> methodsOf(String document) {
+        return document.lines()
+                .dropWhile(line -> !line.startsWith("## The public face"))
+                .takeWhile(line -> !line.startsWith("## Description"))
+                .map(String::trim)
+                .filter(line -> line.startsWith("public ") && !line.contains("class")
+                        && !line.contains(" MatchingService("))
+                .map(line -> line.replaceAll("^public |java\\.util\\.|;$", ""))
+                .map(line -> line.replaceAll("(int|long|double|boolean) \\w+(?=[,)])", "$1"))
+                .collect(Collectors.toCollection(TreeSet::new));
     }
 
     private static Set<String> methodsOf(Class<?> face) {
@@ -86,6 +139,12 @@ public final class FaceTest {
 
     private static List<String> constructorsOf(Class<?> face) {
         return Arrays.stream(face.getDeclaredConstructors()).map(Constructor::toString).toList();
+    }
+
+    private static long countOwnFields(Class<?> owner) {
+        return Arrays.stream(owner.getDeclaredFields())
+                .filter(field -> !Modifier.isStatic(field.getModifiers()))
+                .count();
     }
 
     private static long countOpenFields(Class<?> face) {
